@@ -147,8 +147,7 @@ public final class FencedStandbys {
         if (!isKey(key)) {
             return INVALID_ARGUMENT;
         }
-        int record = store.log.lastCommit(key, store.log.size);
-        return record == NO_RECORD ? NOT_FOUND : record;
+        return found(store.log.lastCommit(key, store.log.size));
     }
 
     // ---- what there is
@@ -319,7 +318,7 @@ public final class FencedStandbys {
         return changed(trial.orders);
     }
 
-    /** Keeps the state that was prepared, unless the answer is an error: an error changes nothing. */
+    /** A call that answers an error has changed nothing, so the state that was prepared for it is not kept. */
     private int changed(int answer) {
         if (answer >= 0) {
             history.keep();
@@ -392,7 +391,6 @@ public final class FencedStandbys {
             return has(record) ? ticks[record - 1] : NOT_FOUND;
         }
 
-        /** Returns the number of the record, or the error code. */
         int append(int kind, int transaction, int key, int value, int tick) {
             int at = size;
             if (at < 0 || at >= RECORDS) {
@@ -431,7 +429,6 @@ public final class FencedStandbys {
             return transactionOf(record) == transaction && kindOf(record) == PUT;
         }
 
-        /** Returns the transaction's last put of the key up to a position. */
         int lastPut(int transaction, int key, int position) {
             for (int record = position; record >= 1; record--) {
                 if (isPutOf(record, transaction) && keyOf(record) == key) {
@@ -441,7 +438,6 @@ public final class FencedStandbys {
             return NO_RECORD;
         }
 
-        /** Returns the last commit, up to a position, of a transaction that put the key. */
         int lastCommit(int key, int position) {
             for (int record = position; record >= 1; record--) {
                 if (kindOf(record) == COMMIT && lastPut(transactionOf(record), key, record) != NO_RECORD) {
@@ -451,6 +447,7 @@ public final class FencedStandbys {
             return NO_RECORD;
         }
 
+        /** The last commit alone decides: its puts come behind those of all commits ahead of it. */
         int valueAt(int key, int position) {
             int commit = lastCommit(key, position);
             if (commit == NO_RECORD) {
@@ -531,7 +528,6 @@ public final class FencedStandbys {
             return NO_RECORD;
         }
 
-        /** Returns the position that it can come to with what it has received. */
         int reachable() {
             int gap = lowestGap();
             return gap == NO_RECORD ? received : gap - 1;
@@ -550,7 +546,7 @@ public final class FencedStandbys {
             dropGapsBehind(0);
         }
 
-        /** The log ends at a position now that may be ahead of what was received or applied. */
+        /** For a log that was cut by the promotion of the other standby. */
         void cutTo(int position) {
             received = Math.min(received, position);
             dropGapsBehind(position);
@@ -693,7 +689,7 @@ public final class FencedStandbys {
             it.applied = position;
         }
 
-        /** Returns where a standby that has applied up to a position is when a tick has passed. */
+        /** Takes the position and the tick from its caller, so that what would be is told by the same rule as what is. */
         int appliedAfter(Standby it, int position, int tickThen, int rateThen) {
             int at = position;
             for (int times = 0; times < rateThen; times++) {
@@ -801,14 +797,13 @@ public final class FencedStandbys {
             }
         }
 
-        /** Copies the state ahead of a change, of which it is not known yet whether it is possible. */
+        /** Apart from keep(), because only the change itself tells whether it is possible. */
         void prepare(Store now) {
             if (size >= 0 && size <= STATES) {
                 states[size].copyFrom(now);
             }
         }
 
-        /** Takes the state that was prepared. */
         void keep() {
             if (size < STATES) {
                 size++;
@@ -861,7 +856,7 @@ public final class FencedStandbys {
             return which >= 0 && which < numbersRead && which < MOST_NUMBERS ? numbers[which] : 0;
         }
 
-        /** Reads one order; the place "at" is behind it then, or where it breaks off. */
+        /** Leaves "at" behind the order, or where it breaks off, for the cause of a fault. */
         boolean readOrder(int from) {
             at = from;
             numbersRead = 0;
