@@ -469,10 +469,15 @@ public final class FencedStandbys {
 
         void applyPuts(int transaction, int commit, int[] into) {
             for (int record = 1; record < commit; record++) {
-                int key = keyOf(record);
-                if (isPutOf(record, transaction) && key >= 0 && key < into.length) {
-                    into[key] = valueIn(record);
+                if (isPutOf(record, transaction)) {
+                    setValue(into, keyOf(record), valueIn(record));
                 }
+            }
+        }
+
+        static void setValue(int[] into, int key, int value) {
+            if (key >= 0 && key < into.length) {
+                into[key] = value;
             }
         }
 
@@ -671,27 +676,26 @@ public final class FencedStandbys {
             if (!isTicks(ticks)) {
                 return INVALID_ARGUMENT;
             }
-            int before = recordsApplied;
+            int applied = 0;
             for (int passed = 0; passed < ticks; passed++) {
                 tick++;
-                applyIn(first);
-                applyIn(second);
+                for (int number = 0; number < STANDBYS; number++) {
+                    Standby it = standby(number);
+                    int position = appliedAfter(it, it.applied, tick, rate);
+                    applied += position - it.applied;
+                    it.applied = position;
+                }
             }
-            return recordsApplied - before;
-        }
-
-        void applyIn(Standby it) {
-            if (it.astray) {
-                return;
-            }
-            int position = appliedAfter(it, it.applied, tick, rate);
-            recordsApplied += position - it.applied;
-            it.applied = position;
+            recordsApplied += applied;
+            return applied;
         }
 
         /** Takes the position and the tick from its caller, so that what would be is told by the same rule as what is. */
         int appliedAfter(Standby it, int position, int tickThen, int rateThen) {
             int at = position;
+            if (it.astray) {
+                return at;
+            }
             for (int times = 0; times < rateThen; times++) {
                 int next = at + 1;
                 if (next > it.received || it.isGap(next) || log.tickOf(next) > tickThen - delay) {
@@ -716,15 +720,19 @@ public final class FencedStandbys {
         int leastRate(Standby it, int ticks) {
             int target = it.reachable();
             for (int tried = 1; tried <= MOST_RATE; tried++) {
-                int at = it.applied;
-                for (int passed = 1; passed <= ticks; passed++) {
-                    at = appliedAfter(it, at, tick + passed, tried);
-                }
-                if (at >= target) {
+                if (comesTo(it, target, ticks, tried)) {
                     return tried;
                 }
             }
             return NOT_FOUND;
+        }
+
+        boolean comesTo(Standby it, int target, int ticks, int rateThen) {
+            int at = it.applied;
+            for (int passed = 1; passed <= ticks && at < target; passed++) {
+                at = appliedAfter(it, at, tick + passed, rateThen);
+            }
+            return at >= target;
         }
 
         int promoteTo(int standby) {
@@ -835,7 +843,7 @@ public final class FencedStandbys {
         final char[] characters = new char[CHARACTERS];
         int length = 0;
         int at = 0;
-        char kind = END;
+        int kind = END;
         final int[] numbers = new int[MOST_NUMBERS];
         int numbersRead = 0;
 
@@ -874,7 +882,7 @@ public final class FencedStandbys {
             return true;
         }
 
-        static String formBehind(char kind) {
+        static String formBehind(int kind) {
             switch (kind) {
                 case 'o':
                 case 'c':

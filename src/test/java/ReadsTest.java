@@ -7,6 +7,7 @@ public final class ReadsTest {
     fence();
     recordOf();
     standbyOf();
+    standbyOfEdges();
     slotOf();
     Due.end();
   }
@@ -83,6 +84,12 @@ public final class ReadsTest {
     due.is("serves(0): both are astray", x.serves(0), Due.NONE);
     x.rebuild(1);
     due.is("serves(0): the one that is not astray", x.serves(0), 1);
+    x.rebuild(0);
+    x.open(0);
+    x.put(0, 1, 1);
+    x.rebuild(0);
+    due.is("serves(6): the other would see too little", x.serves(6), 0);
+    due.is("serves(5)", x.serves(5), 0);
   }
 
   private static void fence() {
@@ -104,6 +111,13 @@ public final class ReadsTest {
     x.put(0, 6, 3);
     x.abort(0);
     due.is("fence(6): no abort", x.fence(6), 6);
+    FencedStandbys late = new FencedStandbys();
+    late.open(0);
+    late.put(0, 0, 5);
+    late.open(1);
+    late.commit(1);
+    late.commit(0);
+    due.is("fence(0): the put is the first record", late.fence(0), 3);
     due.is("fence(24)", x.fence(24), Due.INVALID);
     due.is("fence(-1)", x.fence(-1), Due.INVALID);
     x.promote(0);
@@ -176,6 +190,42 @@ public final class ReadsTest {
     for (int what = 0; what < astray.length; what++) {
       due.is("standbyOf(0, " + what + ") astray", x.standbyOf(0, what), astray[what]);
     }
+  }
+
+  private static void standbyOfEdges() {
+    Due due = new Due("promise 18, standbyOf at its edges");
+    FencedStandbys x = new FencedStandbys();
+    x.open(0);
+    x.put(0, 0, 5);
+    due.is("standbyOf(0, 7): behind by one record", x.standbyOf(0, 7), 0);
+    x.put(0, 23, 6);
+    x.put(0, 12, 0);
+    x.tick(4);
+    due.is("standbyOf(0, 8): nothing is committed", x.standbyOf(0, 8), 0);
+    due.is("standbyOf(0, 7)", x.standbyOf(0, 7), 4);
+    x.commit(0);
+    due.is("standbyOf(0, 8): the keys 0 and 23, and 12 is 0 still", x.standbyOf(0, 8), 2);
+    x.rebuild(1);
+    x.open(1);
+    x.put(1, 0, 7);
+    x.put(1, 0, 5);
+    x.commit(1);
+    due.is("standbyOf(1, 8): the same value once more", x.standbyOf(1, 8), 0);
+    due.is("standbyOf(1, 6)", x.standbyOf(1, 6), 1);
+    FencedStandbys full = Due.withPuts(100);
+    for (int i = 0; i < 5; i++) {
+      full.ship(1, 20);
+    }
+    full.lose(1, 100);
+    due.is("standbyOf(1, 3)", full.standbyOf(1, 3), 100);
+    full.set(0, 20);
+    due.is("tick(9): up to the gap 100", full.tick(9), 99);
+    due.is("lose(1, 100): a gap already", full.lose(1, 100), Due.IMPOSSIBLE);
+    full.resend(1);
+    due.is("standbyOf(1, 3) sent again", full.standbyOf(1, 3), Due.NONE);
+    full.lose(1, 100);
+    full.rebuild(1);
+    due.is("standbyOf(1, 3) rebuilt", full.standbyOf(1, 3), Due.NONE);
   }
 
   private static void slotOf() {

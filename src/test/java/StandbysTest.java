@@ -215,6 +215,15 @@ public final class StandbysTest {
     due.is("standbyOf(0, 4): it becomes astray", ahead.standbyOf(0, 4), 1);
     due.is("standbyOf(0, 0)", ahead.standbyOf(0, 0), 2);
     due.is("standbyOf(0, 1)", ahead.standbyOf(0, 1), 2);
+    FencedStandbys at = Due.withPuts(6);
+    at.ship(0, 2);
+    at.ship(1, 4);
+    at.lose(1, 2);
+    at.lose(1, 3);
+    at.tick(9);
+    at.promote(0);
+    due.is("standbyOf(1, 3): a gap at the end of the log stays", at.standbyOf(1, 3), 2);
+    due.is("standbyOf(1, 2)", at.standbyOf(1, 2), 1);
     FencedStandbys alike = Due.withPuts(6);
     alike.ship(0, 2);
     alike.ship(1, 4);
@@ -244,6 +253,13 @@ public final class StandbysTest {
     due.is("rebuild(1) with gaps", gaps.rebuild(1), 5);
     due.is("standbyOf(1, 2)", gaps.standbyOf(1, 2), 0);
     due.is("rebuild(0) of no records", new FencedStandbys().rebuild(0), 0);
+    FencedStandbys first = Due.withPuts(2);
+    first.ship(0, 2);
+    first.lose(0, 1);
+    due.is("lose(0, 1): a gap already", first.lose(0, 1), Due.IMPOSSIBLE);
+    due.is("tick(9): the first record is a gap", first.tick(9), 0);
+    first.rebuild(0);
+    due.is("standbyOf(0, 2): the gap 1 is gone", first.standbyOf(0, 2), 0);
   }
 
   private static void set() {

@@ -5,7 +5,11 @@ public final class WouldBeTest {
     wouldLose();
     rateFor();
     count();
+    countOfTheFirstRecord();
     undo();
+    undoOfEachChange();
+    undoOfLog();
+    undoOfFour();
     Due.end();
   }
 
@@ -133,6 +137,17 @@ public final class WouldBeTest {
     }
   }
 
+  private static void countOfTheFirstRecord() {
+    Due due = new Due("promise 23, count of the first record");
+    FencedStandbys x = new FencedStandbys();
+    x.open(0);
+    x.commit(0);
+    due.is("count(4)", x.count(4), 1);
+    due.is("wouldLose(0)", x.wouldLose(0), 1);
+    due.is("standbyOf(0, 6)", x.standbyOf(0, 6), 1);
+    due.is("promote(0)", x.promote(0), 1);
+  }
+
   private static void undo() {
     Due due = new Due("promise 24, undo");
     FencedStandbys x = new FencedStandbys();
@@ -159,44 +174,130 @@ public final class WouldBeTest {
     due.is("slotOf(0, 1)", x.slotOf(0, 1), 0);
     due.is("undo(): open was dropped", x.undo(), Due.IMPOSSIBLE);
     due.is("slotOf(0, 0)", x.slotOf(0, 0), 1);
-    undoOfTheRest(due);
   }
 
-  private static void undoOfTheRest(Due due) {
+  /** Does one change of each kind behind others, and looks at everything before it and behind undo. */
+  private static void undoOfEachChange() {
+    Due due = new Due("promise 24, undo of each change");
+    for (int kind = 0; kind < 13; kind++) {
+      FencedStandbys x = new FencedStandbys();
+      // Many changes, as a used place of the history holds an older state, which undo must not bring back.
+      for (int ahead = 0; ahead < 7; ahead++) {
+        x.open(0);
+        x.put(0, ahead, 10 + ahead);
+        x.commit(0);
+        x.ship(0, 20);
+        x.ship(1, 20);
+        x.tick(1 + ahead % 3);
+      }
+      x.open(1);
+      x.put(1, 4, 5);
+      x.ship(0, 20);
+      x.lose(0, 15);
+      x.set(0, 3);
+      Due.typeAll(x, "t3;o2;");
+      String before = lookAt(x);
+      int states = x.count(8);
+      due.is("change " + kind + " is possible", change(x, kind) >= 0 ? 1 : 0, 1);
+      due.is("change " + kind + " is to be seen", lookAt(x).equals(before) ? 1 : 0, 0);
+      due.is("count(8) behind change " + kind, x.count(8), states);
+      due.is("undo() of change " + kind, x.undo(), 3);
+      due.is("all is as before change " + kind, lookAt(x).equals(before) ? 1 : 0, 1);
+      due.is("count(9) behind change " + kind, x.count(9), 6);
+    }
+  }
+
+  private static int change(FencedStandbys x, int kind) {
+    switch (kind) {
+      case 0: return x.open(0);
+      case 1: return x.put(1, 4, 6);
+      case 2: return x.commit(1);
+      case 3: return x.abort(1);
+      case 4: return x.ship(1, 1);
+      case 5: return x.lose(0, 14);
+      case 6: return x.resend(0);
+      case 7: return x.tick(2);
+      case 8: return x.promote(0);
+      case 9: return x.rebuild(1);
+      case 10: return x.set(1, 9);
+      case 11: return x.set(0, 9);
+      default: return x.play();
+    }
+  }
+
+  /** Everything that undo brings back, as far as calls tell it. */
+  private static String lookAt(FencedStandbys x) {
+    StringBuilder all = new StringBuilder();
+    for (int what = 0; what <= 21; what++) {
+      all.append(what == 8 || what == 9 ? 0 : x.count(what)).append(' ');
+    }
+    for (int standby = 0; standby < 2; standby++) {
+      for (int what = 0; what <= 8; what++) {
+        all.append(x.standbyOf(standby, what)).append(' ');
+      }
+    }
+    for (int slot = 0; slot < 3; slot++) {
+      all.append(x.slotOf(slot, 0)).append(' ').append(x.slotOf(slot, 1)).append(' ');
+    }
+    for (int record = 1; record <= x.count(0); record++) {
+      for (int what = 0; what <= 4; what++) {
+        all.append(x.recordOf(record, what)).append(' ');
+      }
+    }
+    for (int key = 0; key < 24; key++) {
+      all.append(x.primary(-1, key)).append(' ');
+    }
+    return all.toString();
+  }
+
+  /** Records that are gone by a promotion and written over come back with all that they tell. */
+  private static void undoOfLog() {
+    Due due = new Due("promise 24, undo of records");
     FencedStandbys x = new FencedStandbys();
     Due.commitOne(x, 1, 10);
-    x.ship(0, 1);
-    x.ship(1, 2);
-    x.tick(5);
-    due.is("undo() of tick", x.undo(), 3);
-    due.is("count(1)", x.count(1), 0);
-    due.is("count(7)", x.count(7), 0);
-    due.is("standbyOf(1, 1)", x.standbyOf(1, 1), 0);
     x.tick(5);
     x.open(2);
+    x.put(2, 3, 30);
+    String before = lookAt(x);
     x.promote(0);
-    due.is("undo() of promote", x.undo(), 3);
-    due.is("count(0)", x.count(0), 2);
-    due.is("count(2)", x.count(2), 1);
-    due.is("count(5)", x.count(5), 0);
-    due.is("slotOf(2, 0)", x.slotOf(2, 0), 2);
-    due.is("recordOf(2, 0)", x.recordOf(2, 0), 1);
-    due.is("standbyOf(1, 1)", x.standbyOf(1, 1), 2);
-    due.is("standbyOf(0, 4)", x.standbyOf(0, 4), 0);
-    x.rebuild(0);
+    x.tick(9);
+    x.open(1);
+    x.put(1, 7, 70);
     x.undo();
-    due.is("standbyOf(0, 1) behind undo of rebuild", x.standbyOf(0, 1), 1);
-    x.set(0, 9);
-    x.set(1, 9);
-    Due.typeAll(x, "abc");
     x.undo();
-    due.is("count(21)", x.count(21), 2);
-    due.is("count(9): the text stays", x.count(9), 3);
     x.undo();
-    due.is("count(20)", x.count(20), 4);
-    x.lose(1, 1);
-    x.abort(2);
-    x.undo();
-    due.is("slotOf(2, 0) behind undo of abort", x.slotOf(2, 0), 2);
+    due.is("undo() of promote", x.undo(), 0);
+    due.is("all is as before", lookAt(x).equals(before) ? 1 : 0, 1);
+    due.is("undo()", x.undo(), Due.IMPOSSIBLE);
+    FencedStandbys full = Due.withPuts(100);
+    for (int i = 0; i < 5; i++) {
+      full.ship(0, 20);
+    }
+    full.lose(0, 100);
+    full.lose(0, 1);
+    full.resend(0);
+    due.is("undo() of resend", full.undo(), 3);
+    due.is("standbyOf(0, 2)", full.standbyOf(0, 2), 2);
+    due.is("standbyOf(0, 3)", full.standbyOf(0, 3), 1);
+    full.undo();
+    due.is("standbyOf(0, 3): the gap 100 alone", full.standbyOf(0, 3), 100);
+    full.undo();
+    due.is("standbyOf(0, 3)", full.standbyOf(0, 3), Due.NONE);
+  }
+
+  private static void undoOfFour() {
+    Due due = new Due("promise 24, undo four times");
+    FencedStandbys x = Due.withPuts(3);
+    String[] looks = new String[20];
+    for (int i = 0; i < looks.length; i++) {
+      looks[i] = lookAt(x);
+      due.is("tick(1)", x.tick(1), 0);
+      due.is("tick(0) in between", x.tick(0), Due.INVALID);
+    }
+    for (int back = 1; back <= 4; back++) {
+      due.is("undo() number " + back, x.undo(), 4 - back);
+      due.is("all is as before", lookAt(x).equals(looks[looks.length - back]) ? 1 : 0, 1);
+    }
+    due.is("undo() number 5", x.undo(), Due.IMPOSSIBLE);
   }
 }
