@@ -12,6 +12,8 @@ public final class ModelTest {
   private final FencedStandbys program = new FencedStandbys();
   private final int wildness;
   private final int haste;
+  /** A run that fills the log: without texts and promotions, and with many puts. */
+  private final boolean isLong;
   private int calls = 0;
 
   private ModelTest(int seed) {
@@ -19,6 +21,7 @@ public final class ModelTest {
     random = new Random(seed);
     wildness = seed % 3 == 0 ? 10 : 60;
     haste = 4 + seed % 60;
+    isLong = seed % 4 == 1;
   }
 
   public static void main(String[] args) {
@@ -30,8 +33,8 @@ public final class ModelTest {
 
   private void run() {
     while (calls < CALLS) {
-      int kind = random.nextInt(100);
-      if (kind < 50) {
+      int kind = random.nextInt(isLong ? 90 : 100);
+      if (kind < (isLong ? 70 : 50)) {
         changeByChance();
       } else if (kind < 90) {
         askByChance();
@@ -76,7 +79,7 @@ public final class ModelTest {
     int standby = number(0, 1);
     int key = number(0, random.nextBoolean() ? 3 : 23);
     int value = number(0, random.nextBoolean() ? 2 : 999);
-    int chance = random.nextInt(100);
+    int chance = random.nextInt(isLong ? 70 : 100);
     if (chance < 15) {
       is("open(" + slot + ")", program.open(slot), model.changeNow('o', slot, 0, 0));
     } else if (chance < 40) {
@@ -103,7 +106,7 @@ public final class ModelTest {
       int ticks = number(1, random.nextInt(haste) == 0 ? 99 : 3);
       is("tick(" + ticks + ")", program.tick(ticks), model.changeNow('t', ticks, 0, 0));
     } else if (chance < 86) {
-      boolean now = random.nextInt(haste) < 4;
+      boolean now = !isLong && random.nextInt(haste) < 4;
       int which = now ? standby : 2;
       is("promote(" + which + ")", program.promote(which), model.changeNow('P', which, 0, 0));
     } else if (chance < 92) {
