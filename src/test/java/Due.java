@@ -13,11 +13,24 @@ final class Due {
     this.promise = promise;
   }
 
+  /** For a test of one sentence, or of a part of one, in the document's own words. */
+  Due(String section, String sentence) {
+    this(section + ", \"" + sentence + "\"");
+  }
+
   void is(String call, long got, long want) {
     compared++;
     if (got != want) {
       wrong++;
       System.out.println(promise + ": " + call + " (comparison " + compared + ") answered " + got + ", due is " + want);
+    }
+  }
+
+  void same(String what, String got, String want) {
+    compared++;
+    if (!got.equals(want)) {
+      wrong++;
+      System.out.println(promise + ": " + what + " (comparison " + compared + ")\n  is     " + got + "\n  due is " + want);
     }
   }
 
