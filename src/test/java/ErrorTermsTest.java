@@ -129,16 +129,16 @@ public final class ErrorTermsTest {
     for (int first = 0; first < calls.length; first++) {
       for (int second = 0; second < calls.length; second++) {
         FencedStandbys x = Made.busy();
-        String start = Look.atState(x);
+        FencedStandbys between = Made.busy();
         due.is("the change " + first + " returns no error", calls[first].applyAsInt(x) >= 0 ? 1 : 0, 1);
-        String between = Look.atState(x);
+        calls[first].applyAsInt(between);
         boolean isDone = calls[second].applyAsInt(x) >= 0;
         if (isDone) {
           due.is("undo() of the change " + second, x.undo(), 3);
         }
-        due.same("all that is seen ahead of the change " + second, Look.atState(x), between);
+        due.same("all that is seen ahead of the change " + second, Look.atState(x), Look.atState(between));
         due.is("undo() of the change " + first, x.undo(), isDone ? 2 : 3);
-        due.same("all that is seen ahead of the change " + first, Look.atState(x), start);
+        due.same("all that is seen ahead of the change " + first, Look.atState(x), Look.atState(Made.busy()));
       }
     }
   }

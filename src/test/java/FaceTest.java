@@ -113,7 +113,7 @@ public final class FaceTest {
     for (char c : String.join("", Collections.nCopies(15, "t99;")).toCharArray()) {
       x.type(c);
     }
-    for (int i = 0; i < 40; i++) {
+    for (int i = 0; i < 37; i++) {
       x.open(0);
       x.put(0, i % 24, i);
       x.commit(0);
@@ -124,7 +124,7 @@ public final class FaceTest {
       x.rateFor(0, 99);
       x.waits(0, x.count(0));
       x.undo();
-      x.promote(i % 10 == 9 ? 1 : 2);
+      x.promote(i % 9 == 8 ? 1 : 2);
     }
   }
 }

@@ -186,7 +186,7 @@ public final class ModelTest {
     if (random.nextInt(3) == 0) {
       is("clearText()", program.clearText(), model.clearText());
     }
-    if (random.nextInt(20) == 0) {
+    if (random.nextInt(20) == 0 && calls < CALLS) {
       int character = number(32, 126);
       is("type(" + character + ")", program.type(character), model.type(character));
     }

@@ -1,3 +1,5 @@
+import java.util.Arrays;
+
 /** The document's terms "Texts", sentence by sentence, at their boundaries. */
 public final class TextTermsTest {
   private static final String TEXTS = "terms, Texts";
@@ -37,12 +39,20 @@ public final class TextTermsTest {
 
   private static void isFault(Due due, FencedStandbys x, String text, int position, int reason, int cause) {
     Due.typeAll(x, text);
-    String before = Look.at(x);
+    int[] counts = counts(x);
     due.is(text + " fault(0)", x.fault(0), position);
     due.is(text + " fault(1)", x.fault(1), reason);
     due.is(text + " fault(2)", x.fault(2), cause);
-    due.same(text + " fault(..) changes nothing", Look.at(x), before);
     due.is(text + " play()", x.play(), Due.IMPOSSIBLE);
+    due.same(text + " nothing is changed", Arrays.toString(counts(x)), Arrays.toString(counts));
+  }
+
+  private static int[] counts(FencedStandbys x) {
+    int[] counts = new int[10];
+    for (int what = 0; what < counts.length; what++) {
+      counts[what] = x.count(what);
+    }
+    return counts;
   }
 
   private static void emptyText() {
@@ -265,10 +275,9 @@ public final class TextTermsTest {
     isFine(due, "o0;c0;o0;a0;o0;p0,1=1;");
     isFault(due, "o0;c0;c0;", 6, 2, Due.IMPOSSIBLE);
     isFault(due, "o1;a1;p1,1=1;", 6, 2, Due.IMPOSSIBLE);
-    FencedStandbys nearlyFull = Due.withPuts(99);
-    isFault(due, nearlyFull, "p0,0=0;c0;", 7, 2, Due.LIMIT);
-    isFault(due, nearlyFull, "c0;c0;", 3, 2, Due.IMPOSSIBLE);
-    isFault(due, nearlyFull, "c0;o0;a0;", 6, 2, Due.LIMIT);
+    isFault(due, Due.withPuts(99), "p0,0=0;c0;", 7, 2, Due.LIMIT);
+    isFault(due, Due.withPuts(99), "c0;c0;", 3, 2, Due.IMPOSSIBLE);
+    isFault(due, Due.withPuts(99), "c0;o0;a0;", 6, 2, Due.LIMIT);
     FencedStandbys open = Due.withPuts(0);
     isFault(due, open, "o0;", 0, 2, Due.IMPOSSIBLE);
     due.is("c0;o0; where it is open", playOf(open, "c0;o0;"), 2);

@@ -179,32 +179,38 @@ public final class WouldBeTest {
   /** Does one change of each kind behind others, and looks at everything before it and behind undo. */
   private static void undoOfEachChange() {
     Due due = new Due("promise 24, undo of each change");
+    String before = Look.atState(behindManyChanges());
     for (int kind = 0; kind < 13; kind++) {
-      FencedStandbys x = new FencedStandbys();
-      // Many changes, as a used place of the history holds an older state, which undo must not bring back.
-      for (int ahead = 0; ahead < 7; ahead++) {
-        x.open(0);
-        x.put(0, ahead, 10 + ahead);
-        x.commit(0);
-        x.ship(0, 20);
-        x.ship(1, 20);
-        x.tick(1 + ahead % 3);
-      }
-      x.open(1);
-      x.put(1, 4, 5);
-      x.ship(0, 20);
-      x.lose(0, 15);
-      x.set(0, 3);
-      Due.typeAll(x, "t3;o2;");
-      String before = lookAt(x);
-      int states = x.count(8);
-      due.is("change " + kind + " is possible", change(x, kind) >= 0 ? 1 : 0, 1);
-      due.is("change " + kind + " is to be seen", lookAt(x).equals(before) ? 1 : 0, 0);
-      due.is("count(8) behind change " + kind, x.count(8), states);
+      FencedStandbys seen = behindManyChanges();
+      due.is("change " + kind + " is possible", change(seen, kind) >= 0 ? 1 : 0, 1);
+      due.is("count(8) behind change " + kind, seen.count(8), 4);
+      due.is("change " + kind + " is to be seen", Look.atState(seen).equals(before) ? 1 : 0, 0);
+      FencedStandbys x = behindManyChanges();
+      change(x, kind);
       due.is("undo() of change " + kind, x.undo(), 3);
-      due.is("all is as before change " + kind, lookAt(x).equals(before) ? 1 : 0, 1);
+      due.same("all that is seen behind undo() of change " + kind, Look.atState(x), before);
       due.is("count(9) behind change " + kind, x.count(9), 6);
     }
+  }
+
+  /** Many changes, as a used place of the history holds an older state, which undo must not bring back. */
+  private static FencedStandbys behindManyChanges() {
+    FencedStandbys x = new FencedStandbys();
+    for (int ahead = 0; ahead < 7; ahead++) {
+      x.open(0);
+      x.put(0, ahead, 10 + ahead);
+      x.commit(0);
+      x.ship(0, 20);
+      x.ship(1, 20);
+      x.tick(1 + ahead % 3);
+    }
+    x.open(1);
+    x.put(1, 4, 5);
+    x.ship(0, 20);
+    x.lose(0, 15);
+    x.set(0, 3);
+    Due.typeAll(x, "t3;o2;");
+    return x;
   }
 
   private static int change(FencedStandbys x, int kind) {
@@ -225,31 +231,6 @@ public final class WouldBeTest {
     }
   }
 
-  /** Everything that undo brings back, as far as calls tell it. */
-  private static String lookAt(FencedStandbys x) {
-    StringBuilder all = new StringBuilder();
-    for (int what = 0; what <= 21; what++) {
-      all.append(what == 8 || what == 9 ? 0 : x.count(what)).append(' ');
-    }
-    for (int standby = 0; standby < 2; standby++) {
-      for (int what = 0; what <= 8; what++) {
-        all.append(x.standbyOf(standby, what)).append(' ');
-      }
-    }
-    for (int slot = 0; slot < 3; slot++) {
-      all.append(x.slotOf(slot, 0)).append(' ').append(x.slotOf(slot, 1)).append(' ');
-    }
-    for (int record = 1; record <= x.count(0); record++) {
-      for (int what = 0; what <= 4; what++) {
-        all.append(x.recordOf(record, what)).append(' ');
-      }
-    }
-    for (int key = 0; key < 24; key++) {
-      all.append(x.primary(-1, key)).append(' ');
-    }
-    return all.toString();
-  }
-
   /** Records that are gone by a promotion and written over come back with all that they tell. */
   private static void undoOfLog() {
     Due due = new Due("promise 24, undo of records");
@@ -258,7 +239,7 @@ public final class WouldBeTest {
     x.tick(5);
     x.open(2);
     x.put(2, 3, 30);
-    String before = lookAt(x);
+    String before = Look.atState(x);
     x.promote(0);
     x.tick(9);
     x.open(1);
@@ -267,7 +248,7 @@ public final class WouldBeTest {
     x.undo();
     x.undo();
     due.is("undo() of promote", x.undo(), 0);
-    due.is("all is as before", lookAt(x).equals(before) ? 1 : 0, 1);
+    due.same("all that is seen", Look.atState(x), before);
     due.is("undo()", x.undo(), Due.IMPOSSIBLE);
     FencedStandbys full = Due.withPuts(100);
     for (int i = 0; i < 5; i++) {
@@ -287,17 +268,21 @@ public final class WouldBeTest {
 
   private static void undoOfFour() {
     Due due = new Due("promise 24, undo four times");
+    for (int undos = 1; undos <= 5; undos++) {
+      FencedStandbys x = withTicks(20);
+      for (int back = 1; back <= undos; back++) {
+        due.is("undo() number " + back, x.undo(), back <= 4 ? 4 - back : Due.IMPOSSIBLE);
+      }
+      due.same("all that is seen behind " + undos, Look.atState(x), Look.atState(withTicks(20 - Math.min(4, undos))));
+    }
+  }
+
+  private static FencedStandbys withTicks(int ticks) {
     FencedStandbys x = Due.withPuts(3);
-    String[] looks = new String[20];
-    for (int i = 0; i < looks.length; i++) {
-      looks[i] = lookAt(x);
-      due.is("tick(1)", x.tick(1), 0);
-      due.is("tick(0) in between", x.tick(0), Due.INVALID);
+    for (int i = 0; i < ticks; i++) {
+      x.tick(1);
+      x.tick(0);
     }
-    for (int back = 1; back <= 4; back++) {
-      due.is("undo() number " + back, x.undo(), 4 - back);
-      due.is("all is as before", lookAt(x).equals(looks[looks.length - back]) ? 1 : 0, 1);
-    }
-    due.is("undo() number 5", x.undo(), Due.IMPOSSIBLE);
+    return x;
   }
 }
