@@ -11,6 +11,7 @@ public final class ErrorTermsTest {
     refusedIsNoChange();
     atMostStates();
     everythingBefore();
+    everythingBeforeAtTheEnds();
     allButTheText();
     oldestIsDropped();
     invalidRatherThanNotPossible();
@@ -140,6 +141,40 @@ public final class ErrorTermsTest {
         due.is("undo() of the change " + first, x.undo(), isDone ? 2 : 3);
         due.same("all that is seen ahead of the change " + first, Look.atState(x), Look.atState(Made.busy()));
       }
+    }
+  }
+
+  private static void everythingBeforeAtTheEnds() {
+    Due due = new Due(ERRORS, "each change records everything before it, of 100 records too");
+    for (int standby = 0; standby < 2; standby++) {
+      for (int record : new int[] {1, 2, 99, 100}) {
+        FencedStandbys x = Made.shipped(Made.full(), standby);
+        x.lose(standby, record);
+        x.undo();
+        due.is("standbyOf(.., 2) behind undo() of lose(.., " + record + ")", x.standbyOf(standby, 2), 0);
+        x.lose(standby, record);
+        x.resend(standby);
+        x.undo();
+        due.is("standbyOf(.., 3) behind undo() of resend", x.standbyOf(standby, 3), record);
+        x.promote(standby);
+        x.undo();
+        due.is("standbyOf(.., 3) behind undo() of promote", x.standbyOf(standby, 3), record);
+        due.is("slotOf(0, 1)", x.slotOf(0, 1), 100);
+        due.is("recordOf(1, 1)", x.recordOf(1, 1), 2);
+        due.is("recordOf(100, 3)", x.recordOf(100, 3), 99);
+        x.rebuild(standby);
+        x.undo();
+        due.is("standbyOf(.., 1) behind undo() of rebuild", x.standbyOf(standby, 1), 0);
+      }
+    }
+    FencedStandbys slots = new FencedStandbys();
+    for (int slot = 0; slot < 3; slot++) {
+      slots.open(slot);
+    }
+    slots.promote(0);
+    slots.undo();
+    for (int slot = 0; slot < 3; slot++) {
+      due.is("slotOf(" + slot + ", 0) behind undo() of promote", slots.slotOf(slot, 0), slot + 1);
     }
   }
 

@@ -550,6 +550,15 @@ public final class ReadsBoundsTest {
     due.is("standbyOf(0, 8): the keys 0 and 23", all.standbyOf(0, 8), 2);
     Due.commitOne(all, 0, 1);
     due.is("standbyOf(0, 8): 0 is as it was", all.standbyOf(0, 8), 1);
+    all.rebuild(0);
+    due.is("standbyOf(0, 8) rebuilt", all.standbyOf(0, 8), 0);
+    FencedStandbys cut = new FencedStandbys();
+    Due.commitOne(cut, 0, 5);
+    Due.commitOne(cut, 23, 6);
+    due.is("standbyOf(1, 8): the keys 0 and 23", cut.standbyOf(1, 8), 2);
+    cut.promote(0);
+    due.is("standbyOf(1, 8) of an empty log", cut.standbyOf(1, 8), 0);
+    due.is("standbyOf(0, 8) of an empty log", cut.standbyOf(0, 8), 0);
     FencedStandbys zero = new FencedStandbys();
     Due.commitOne(zero, 3, 0);
     due.is("standbyOf(0, 8): a put of 0", zero.standbyOf(0, 8), 0);
