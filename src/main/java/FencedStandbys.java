@@ -358,7 +358,7 @@ public final class FencedStandbys {
         return ticks >= 1 && ticks <= MOST_TICKS;
     }
 
-    /** The records, numbered from 1. */
+    /** The document numbers records from 1, so that each stands one place lower in the arrays. */
     private static final class Log {
         int size = 0;
         final int[] kinds = new int[RECORDS];
@@ -492,7 +492,6 @@ public final class FencedStandbys {
         }
     }
 
-    /** What one standby has of the log. */
     private static final class Standby {
         int received = 0;
         int applied = 0;
@@ -565,11 +564,13 @@ public final class FencedStandbys {
             received = other.received;
             applied = other.applied;
             astray = other.astray;
-            System.arraycopy(other.gaps, 0, gaps, 0, RECORDS + 1);
+            for (int record = 0; record <= RECORDS; record++) {
+                gaps[record] = other.gaps[record];
+            }
         }
     }
 
-    /** Everything that a state of the history holds, with the changes that orders can make too. */
+    /** All that a state of the history holds. The changes are its methods, so that a text can make them on a copy. */
     private static final class Store {
         final Log log = new Log();
         final Standby first = new Standby();
@@ -690,7 +691,7 @@ public final class FencedStandbys {
             return applied;
         }
 
-        /** Takes the position and the tick from its caller, so that what would be is told by the same rule as what is. */
+        /** Takes position and tick from its caller, so that what would be is told by the same rule as what is. */
         int appliedAfter(Standby it, int position, int tickThen, int rateThen) {
             int at = position;
             if (it.astray) {
@@ -794,7 +795,7 @@ public final class FencedStandbys {
         }
     }
 
-    /** The states that undo goes back to, the oldest one first; a place more takes the next one. */
+    /** The oldest state comes first; a place more than the document's 4 takes the next one before that is dropped. */
     private static final class History {
         final Store[] states = new Store[STATES + 1];
         int size = 0;
@@ -835,7 +836,7 @@ public final class FencedStandbys {
         }
     }
 
-    /** The text, and the order in it that was read last. */
+    /** The order that was read last stays in fields, so that reading makes no objects. */
     private static final class OrderText {
         static final char END = 0;
         static final char NUMBER = '#';

@@ -5,6 +5,8 @@ final class Due {
   static final int LIMIT = -1000003;
   static final int NONE = -1000004;
 
+  private static final int FIRST_TICK = new FencedStandbys().count(1);
+
   private final String promise;
   private int compared = 0;
   private static int wrong = 0;
@@ -39,6 +41,11 @@ final class Due {
     if (wrong != 0) {
       System.exit(1);
     }
+  }
+
+  /** The tick behind so many ticks of an object, told from the first one, for which the document names no number. */
+  static int tick(int ticks) {
+    return FIRST_TICK + ticks;
   }
 
   static FencedStandbys withText(String text) {

@@ -120,7 +120,7 @@ public final class ErrorTermsTest {
       due.is("count(8)", x.count(8), left);
     }
     due.is("undo() of none", x.undo(), Due.IMPOSSIBLE);
-    due.is("count(1): 4 of 9 ticks came back", x.count(1), 5);
+    due.is("count(1): 4 of 9 ticks came back", x.count(1), Due.tick(5));
   }
 
   private static void everythingBefore() {
@@ -191,9 +191,9 @@ public final class ErrorTermsTest {
     x.type(';');
     x.undo();
     due.is("count(9)", x.count(9), 6);
-    due.is("count(1)", x.count(1), 0);
+    due.is("count(1)", x.count(1), Due.tick(0));
     due.is("play() of all that was typed", x.play(), 2);
-    due.is("count(1)", x.count(1), 11);
+    due.is("count(1)", x.count(1), Due.tick(11));
     x.clearText();
     x.undo();
     due.is("count(9): an emptied text stays empty", x.count(9), 0);
@@ -210,13 +210,13 @@ public final class ErrorTermsTest {
       due.is("count(8) behind " + changes, x.count(8), states);
       for (int back = 1; back <= states; back++) {
         due.is("undo()", x.undo(), states - back);
-        due.is("count(1) behind " + changes + " ticks and " + back + " undos", x.count(1), changes - back);
+        due.is("count(1) behind " + changes + " ticks and " + back + " undos", x.count(1), Due.tick(changes - back));
       }
       due.is("undo() of one that was dropped", x.undo(), Due.IMPOSSIBLE);
       x.tick(7);
       due.is("count(8) behind a change then", x.count(8), 1);
       due.is("undo()", x.undo(), 0);
-      due.is("count(1)", x.count(1), changes - states);
+      due.is("count(1)", x.count(1), Due.tick(changes - states));
     }
     FencedStandbys mixed = new FencedStandbys();
     for (int tick = 1; tick <= 5; tick++) {
@@ -231,7 +231,7 @@ public final class ErrorTermsTest {
     int[] want = {33, 13, 3, 2};
     for (int back = 0; back < 4; back++) {
       mixed.undo();
-      due.is("count(1) behind " + (back + 1) + " undos", mixed.count(1), want[back]);
+      due.is("count(1) behind " + (back + 1) + " undos", mixed.count(1), Due.tick(want[back]));
     }
     due.is("undo()", mixed.undo(), Due.IMPOSSIBLE);
   }
@@ -405,7 +405,7 @@ public final class ErrorTermsTest {
       due.is("tick(99) as the call " + call, x.tick(99), 0);
     }
     due.is("undo() as the call 511", x.undo(), 3);
-    due.is("count(1) as the call 512", x.count(1), 509 * 99);
+    due.is("count(1) as the call 512", x.count(1), Due.tick(509 * 99));
   }
 
   private static void longestText() {
@@ -418,6 +418,6 @@ public final class ErrorTermsTest {
     for (int call = 61; call <= 511; call++) {
       due.is("play() as the call " + call, x.play(), 15);
     }
-    due.is("count(1) as the call 512", x.count(1), 451 * 15 * 99);
+    due.is("count(1) as the call 512", x.count(1), Due.tick(451 * 15 * 99));
   }
 }

@@ -9,24 +9,100 @@ import java.util.Arrays;
 import java.util.Collections;
 import java.util.List;
 import java.util.TreeSet;
+import java.util.regex.Matcher;
+import java.util.regex.Pattern;
 
 /** The public face, as the document prints it, and the rules of LANGUAGE.md that can be seen without reading. */
 public final class FaceTest {
   private static final Path SOURCE = Path.of("src/main/java/FencedStandbys.java");
+  /** As the document prints it. */
+  private static final String FACE = """
+      public final class FencedStandbys {
+          public static final int INVALID_ARGUMENT = -1000001;
+          public static final int NOT_POSSIBLE = -1000002;
+          public static final int LIMIT_REACHED = -1000003;
+          public static final int NOT_FOUND = -1000004;
+          public FencedStandbys();
+          public int open(int slot);
+          public int put(int slot, int key, int value);
+          public int commit(int slot);
+          public int abort(int slot);
+          public int ship(int standby, int many);
+          public int lose(int standby, int record);
+          public int resend(int standby);
+          public int tick(int ticks);
+          public int promote(int standby);
+          public int rebuild(int standby);
+          public int set(int what, int value);
+          public int read(int standby, int key, int fence);
+          public int primary(int slot, int key);
+          public int serves(int fence);
+          public int fence(int key);
+          public int recordOf(int record, int what);
+          public int standbyOf(int standby, int what);
+          public int slotOf(int slot, int what);
+          public int waits(int standby, int fence);
+          public int wouldLose(int standby);
+          public int rateFor(int standby, int ticks);
+          public int count(int what);
+          public int undo();
+          public int type(int character);
+          public int clearText();
+          public int fault(int what);
+          public int play();
+      }
+      """;
+  /** What the interface says ahead of the calls. */
+  private static final List<String> SECTIONS = List.of("primary: open put commit abort",
+      "standbys: ship lose resend tick promote rebuild set", "reads: read primary serves fence",
+      "what there is: recordOf standbyOf slotOf", "what would be: waits wouldLose rateFor count undo",
+      "texts: type clearText fault play");
   private static final List<String> METHODS = List.of("open 1", "put 3", "commit 1", "abort 1", "ship 2", "lose 2",
       "resend 1", "tick 1", "promote 1", "rebuild 1", "set 2", "read 3", "primary 2", "serves 1", "fence 1",
       "recordOf 2", "standbyOf 2", "slotOf 2", "waits 2", "wouldLose 1", "rateFor 2", "count 1", "undo 0", "type 1",
       "clearText 0", "fault 1", "play 0");
-  private static final List<String> RULED_OUT = List.of("throw", "throws", "try", "catch", "synchronized", "assert",
-      "import", "package", "Object", "System.out", "Random", "Thread", "->", "::", "static {", "extends");
+  /** Each behind the number of the rule of LANGUAGE.md that rules it out. */
+  private static final List<String> RULED_OUT = List.of("0 \\bpackage\\b", "2 ::",
+      "3 \\b(Object|Long|Character|Boolean|Double|Map|Set|Optional|var)\\b(?!\\.)", "4 \\w+Exact\\b",
+      "4 \\bSystem\\.(?!arraycopy\\b)", "4 \\bimport (?!java\\.util\\.(ArrayList|List|Arrays|Iterator);)",
+      "5 \\bstatic\\s*\\{",
+      "6 \\b(throw|try|catch|synchronized|assert)\\b", "6 \\b(equals|hashCode|toString)\\s*\\([^)]*\\)\\s*\\{",
+      "13 \\b(Random|Thread|Runtime)\\b");
+  private static final List<Class<?>> STATIC_TYPES = List.of(int.class, long.class, boolean.class, char.class,
+      String.class, int[].class, long[].class, char[].class, byte[].class);
 
   public static void main(String[] args) throws IOException {
+    face();
+    sections();
     constants();
     methods();
     hiddenMembers();
     words();
     room();
     Due.end();
+  }
+
+  /** The source declares each member in the words of the document, in its order, and no other public one. */
+  private static void face() throws IOException {
+    Due due = new Due("the public face");
+    List<String> printed = FACE.lines().map(String::strip).filter(line -> line.startsWith("public")).toList();
+    List<String> found = Files.readAllLines(SOURCE).stream().map(String::strip)
+        .filter(line -> line.startsWith("public")).map(FaceTest::asPrinted).toList();
+    due.same("its lines", String.join("\n", found), String.join("\n", printed));
+  }
+
+  private static void sections() throws IOException {
+    Due due = new Due("what the interface says ahead of the calls");
+    StringBuilder found = new StringBuilder();
+    Matcher said = Pattern.compile("// ---- (.*)|public int (\\w+)\\(").matcher(Files.readString(SOURCE));
+    while (said.find()) {
+      found.append(said.group(1) != null ? "\n" + said.group(1) + ":" : " " + said.group(2));
+    }
+    due.same("its sections", found.toString().strip(), String.join("\n", SECTIONS));
+  }
+
+  private static String asPrinted(String line) {
+    return line.endsWith(") {") ? line.replace(") {", ");") : line;
   }
 
   private static void constants() {
@@ -42,12 +118,14 @@ public final class FaceTest {
     Due due = new Due("the public methods");
     TreeSet<String> found = new TreeSet<>();
     for (Method m : FencedStandbys.class.getDeclaredMethods()) {
+      due.is(m + " is no lambda", m.isSynthetic() ? 1 : 0, 0);
       boolean isPublic = Modifier.isPublic(m.getModifiers());
       if (isPublic) {
         found.add(m.getName() + " " + m.getParameterCount());
         boolean ofInts = Arrays.stream(m.getParameterTypes()).allMatch(type -> type == int.class);
         due.is(m + " is of ints", m.getReturnType() == int.class && ofInts ? 1 : 0, 1);
       }
+      due.is(m + " takes at most 7", m.getParameterCount() <= 7 ? 1 : 0, 1);
       due.is(m + " is public or private", isPublic || Modifier.isPrivate(m.getModifiers()) ? 1 : 0, 1);
       due.is(m + ": no private one has a public one's name", isPublic || !isPublicName(m.getName()) ? 1 : 0, 1);
     }
@@ -69,14 +147,27 @@ public final class FaceTest {
       boolean isPrivate = Modifier.isPrivate(f.getModifiers());
       due.is(f + " is private, or one of the constants", isPrivate || Modifier.isPublic(f.getModifiers()) ? 1 : 0, 1);
     }
+    staticFields(due, FencedStandbys.class);
     due.is("classes inside are at most 11", FencedStandbys.class.getDeclaredClasses().length <= 11 ? 1 : 0, 1);
     for (Class<?> inside : FencedStandbys.class.getDeclaredClasses()) {
       due.is(inside + " is static", inside.getModifiers() & Modifier.STATIC, Modifier.STATIC);
+      due.is(inside + " is private or package-visible", inside.getModifiers() & (Modifier.PUBLIC | Modifier.PROTECTED), 0);
+      staticFields(due, inside);
       long fields = Arrays.stream(inside.getDeclaredFields()).filter(f -> !Modifier.isStatic(f.getModifiers())).count();
       due.is(inside + " has at most 20 fields", fields <= 20 ? 1 : 0, 1);
       for (Method m : inside.getDeclaredMethods()) {
+        due.is(m + " is no lambda", m.isSynthetic() ? 1 : 0, 0);
         due.is(m + " has no public one's name", isPublicName(m.getName()) ? 1 : 0, 0);
         due.is(m + " takes at most 7", m.getParameterCount() <= 7 ? 1 : 0, 1);
+      }
+    }
+  }
+
+  private static void staticFields(Due due, Class<?> of) {
+    for (Field f : of.getDeclaredFields()) {
+      if (Modifier.isStatic(f.getModifiers()) && !f.isSynthetic()) {
+        due.is(f + " is final", f.getModifiers() & Modifier.FINAL, Modifier.FINAL);
+        due.is(f + " is of a type that static ones may have", STATIC_TYPES.contains(f.getType()) ? 1 : 0, 1);
       }
     }
   }
@@ -85,10 +176,10 @@ public final class FaceTest {
     Due due = new Due("the source");
     String source = Files.readString(SOURCE);
     String code = source.replaceAll("(?s)/\\*.*?\\*/", " ").replaceAll("//[^\n]*", " ");
-    for (String word : RULED_OUT) {
-      String edge = Character.isLetter(word.charAt(0)) ? "\\b" : "";
-      String pattern = edge + java.util.regex.Pattern.quote(word) + edge;
-      due.is("'" + word + "' in it", java.util.regex.Pattern.compile(pattern).matcher(code).find() ? 1 : 0, 0);
+    for (String ruledOut : RULED_OUT) {
+      int space = ruledOut.indexOf(' ');
+      Matcher found = Pattern.compile(ruledOut.substring(space + 1)).matcher(code);
+      due.same("the rule " + ruledOut.substring(0, space), found.find() ? found.group() : "", "");
     }
     due.is("signs beyond 127", source.chars().filter(sign -> sign > 127).count(), 0);
   }

@@ -188,9 +188,9 @@ public final class LogTermsTest {
     x.play();
     int[] want = {0, 99, 99, 101, 104};
     for (int record = 1; record <= want.length; record++) {
-      due.is("recordOf(" + record + ", 4)", x.recordOf(record, 4), want[record - 1]);
+      due.is("recordOf(" + record + ", 4)", x.recordOf(record, 4), Due.tick(want[record - 1]));
     }
-    due.is("count(1)", x.count(1), 104);
+    due.is("count(1)", x.count(1), Due.tick(104));
   }
 
   /** 9 records; the standby 0 has received all of them and applies one in a tick. */
@@ -422,13 +422,13 @@ public final class LogTermsTest {
     x.set(1, 1);
     x.ship(0, 1);
     x.ship(1, 1);
-    due.is("count(1)", x.count(1), 0);
+    due.is("count(1)", x.count(1), Due.tick(0));
     due.is("tick(1): the record is one tick old then", x.tick(1), 2);
-    due.is("count(1)", x.count(1), 1);
+    due.is("count(1)", x.count(1), Due.tick(1));
     due.is("standbyOf(0, 1)", x.standbyOf(0, 1), 1);
     due.is("standbyOf(1, 1)", x.standbyOf(1, 1), 1);
     due.is("tick(99)", x.tick(99), 0);
-    due.is("count(1)", x.count(1), 100);
+    due.is("count(1)", x.count(1), Due.tick(100));
   }
 
   private static void notAstray() {

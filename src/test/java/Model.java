@@ -36,7 +36,7 @@ final class Model {
     Follower[] followers = {new Follower(), new Follower()};
     Integer[] slots = new Integer[3];
     int[] settings = {4, 2};
-    int tick;
+    int tick = Due.tick(0);
     int timeline = 1;
     int opened;
     int commitsLost;

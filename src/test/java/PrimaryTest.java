@@ -2,6 +2,7 @@
 public final class PrimaryTest {
   public static void main(String[] args) {
     newObject();
+    firstTick();
     open();
     put();
     commit();
@@ -12,7 +13,7 @@ public final class PrimaryTest {
   private static void newObject() {
     Due due = new Due("promise 1, a new object");
     FencedStandbys x = new FencedStandbys();
-    int[] first = {0, 0, 1, 0, 0, 0, 0, 0, 0, 0};
+    int[] first = {0, Due.tick(0), 1, 0, 0, 0, 0, 0, 0, 0};
     for (int what = 0; what < first.length; what++) {
       due.is("count(" + what + ")", x.count(what), first[what]);
     }
@@ -36,6 +37,12 @@ public final class PrimaryTest {
     due.is("fault(0)", x.fault(0), Due.NONE);
     x.open(0);
     due.is("a second object's open(0)", new FencedStandbys().open(0), 1);
+  }
+
+  /** The one test that asks for a number which the document leaves open: no tick has passed, so it is taken to be 0. */
+  private static void firstTick() {
+    Due due = new Due("where the document leaves room, the tick at first");
+    due.is("count(1)", new FencedStandbys().count(1), 0);
   }
 
   private static void open() {

@@ -315,8 +315,9 @@ public final class ReadsBoundsTest {
     Due due = new Due(RECORD_OF, "what: 0: 0 if it is a put, 1 a commit, 2 an abort; 1: the transaction; 2: the key; 3: the"
         + " value; 4: the tick; INVALID_ARGUMENT if what is out of range");
     FencedStandbys x = Made.busy();
-    int[][] want = {{0, 1, 1, 10, 0}, {0, 1, 2, 20, 0}, {1, 1, Due.NONE, Due.NONE, 0}, {0, 2, 1, 11, 3},
-        {0, 3, 3, 30, 3}, {2, 3, Due.NONE, Due.NONE, 3}, {0, 4, 4, 40, 4}};
+    int[][] want = {{0, 1, 1, 10, Due.tick(0)}, {0, 1, 2, 20, Due.tick(0)}, {1, 1, Due.NONE, Due.NONE, Due.tick(0)},
+        {0, 2, 1, 11, Due.tick(3)}, {0, 3, 3, 30, Due.tick(3)}, {2, 3, Due.NONE, Due.NONE, Due.tick(3)},
+        {0, 4, 4, 40, Due.tick(4)}};
     for (int record = 1; record <= 7; record++) {
       for (int what = 0; what <= 4; what++) {
         due.is("recordOf(" + record + ", " + what + ")", x.recordOf(record, what), want[record - 1][what]);

@@ -135,7 +135,8 @@ public final class ReadsTest {
     x.commit(0);
     x.tick(1);
     x.abort(1);
-    int[][] want = {{0, 2, 9, 90, 3}, {1, 2, Due.NONE, Due.NONE, 7}, {2, 1, Due.NONE, Due.NONE, 8}};
+    int[][] want = {{0, 2, 9, 90, Due.tick(3)}, {1, 2, Due.NONE, Due.NONE, Due.tick(7)},
+        {2, 1, Due.NONE, Due.NONE, Due.tick(8)}};
     for (int record = 1; record <= 3; record++) {
       for (int what = 0; what <= 4; what++) {
         due.is("recordOf(" + record + ", " + what + ")", x.recordOf(record, what), want[record - 1][what]);

@@ -255,7 +255,7 @@ public final class StandbysBoundsTest {
     for (int ticks = 1; ticks <= 99; ticks++) {
       FencedStandbys x = new FencedStandbys();
       due.is("tick(" + ticks + ")", x.tick(ticks), 0);
-      due.is("count(1)", x.count(1), ticks);
+      due.is("count(1)", x.count(1), Due.tick(ticks));
     }
     Refusal.beside(due, "tick", 1, 99, Made::busy, (x, ticks) -> x.tick(ticks), Due.INVALID);
   }
@@ -284,15 +284,15 @@ public final class StandbysBoundsTest {
     FencedStandbys x = new FencedStandbys();
     x.tick(99);
     x.tick(1);
-    due.is("count(1)", x.count(1), 100);
+    due.is("count(1)", x.count(1), Due.tick(100));
     due.is("tick(100), refused", x.tick(100), Due.INVALID);
-    due.is("count(1)", x.count(1), 100);
+    due.is("count(1)", x.count(1), Due.tick(100));
     Due.commitOne(x, 1, 1);
     x.promote(0);
-    due.is("count(1): a promotion lets none pass", x.count(1), 100);
+    due.is("count(1): a promotion lets none pass", x.count(1), Due.tick(100));
     x.tick(1);
     x.undo();
-    due.is("count(1) undone", x.count(1), 100);
+    due.is("count(1) undone", x.count(1), Due.tick(100));
   }
 
   // Promise 10

@@ -80,7 +80,7 @@ public final class TextTermsTest {
     due.is("count(9)", x.count(9), 60);
     due.is("fault(0)", x.fault(0), Due.NONE);
     due.is("play()", x.play(), 20);
-    due.is("count(1)", x.count(1), 21);
+    due.is("count(1)", x.count(1), Due.tick(21));
     isFault(due, "t1;".repeat(19) + "o0,", 57, 1, 2);
     isFault(due, "t1;".repeat(19) + "o00", 57, 1, 3);
     isFault(due, "t1;".repeat(19) + "t0;", 57, 2, Due.INVALID);
@@ -177,7 +177,7 @@ public final class TextTermsTest {
     Due due = new Due(TEXTS, "or \"t\" a number of ticks");
     FencedStandbys x = Due.withText("t1;t99;");
     due.is("play()", x.play(), 2);
-    due.is("count(1)", x.count(1), 100);
+    due.is("count(1)", x.count(1), Due.tick(100));
     isFault(due, "t0;", 0, 2, Due.INVALID);
     isFault(due, "t100;", 0, 2, Due.INVALID);
     isFault(due, "t999;", 0, 2, Due.INVALID);
@@ -220,7 +220,7 @@ public final class TextTermsTest {
     for (int digit = 1; digit <= 9; digit++) {
       FencedStandbys x = Due.withText("t" + digit + ";");
       x.play();
-      due.is("count(1) behind t" + digit, x.count(1), digit);
+      due.is("count(1) behind t" + digit, x.count(1), Due.tick(digit));
     }
   }
 
@@ -232,7 +232,7 @@ public final class TextTermsTest {
     due.is("recordOf(1, 3)", x.recordOf(1, 3), 99);
     due.is("recordOf(2, 1)", x.recordOf(2, 1), 2);
     due.is("standbyOf(0, 1)", x.standbyOf(0, 1), 2);
-    due.is("count(1)", x.count(1), 2);
+    due.is("count(1)", x.count(1), Due.tick(2));
     isFault(due, "t000;", 0, 2, Due.INVALID);
     isFault(due, "s0,00;", 0, 2, Due.INVALID);
   }

@@ -49,7 +49,7 @@ public final class TextsBoundsTest {
       due.is("type('" + text.charAt(i) + "')", x.type(text.charAt(i)), i + 1);
     }
     due.is("play() in the order in which it was typed", x.play(), 3);
-    due.is("count(1)", x.count(1), 21);
+    due.is("count(1)", x.count(1), Due.tick(21));
     due.is("type('x')", x.type('x'), 11);
     due.is("fault(0)", x.fault(0), 7);
     x.clearText();
@@ -102,7 +102,7 @@ public final class TextsBoundsTest {
     due.is("fault(2): the old text's \";\" is not there", x.fault(2), 2);
     x.type(';');
     due.is("play()", x.play(), 1);
-    due.is("count(1)", x.count(1), 6);
+    due.is("count(1)", x.count(1), Due.tick(6));
   }
 
   // Promise 27
@@ -158,7 +158,7 @@ public final class TextsBoundsTest {
     for (int orders = 1; orders <= 20; orders++) {
       FencedStandbys x = Due.withText("t1;".repeat(orders));
       due.is("play() of " + orders, x.play(), orders);
-      due.is("count(1)", x.count(1), orders);
+      due.is("count(1)", x.count(1), Due.tick(orders));
     }
     FencedStandbys each = Due.withText("o0;p0,5=50;c0;o1;a1;s1,20;t3;");
     FencedStandbys called = new FencedStandbys();
@@ -200,14 +200,14 @@ public final class TextsBoundsTest {
     due.is("play()", x.play(), 2);
     due.is("count(9)", x.count(9), 8);
     due.is("play() again", x.play(), 2);
-    due.is("count(1)", x.count(1), 4);
+    due.is("count(1)", x.count(1), Due.tick(4));
     x.type('t');
     due.is("play() with a fault", x.play(), Due.IMPOSSIBLE);
     due.is("count(9) behind a refused one", x.count(9), 9);
     x.type('3');
     x.type(';');
     due.is("play()", x.play(), 3);
-    due.is("count(1)", x.count(1), 9);
+    due.is("count(1)", x.count(1), Due.tick(9));
     x.undo();
     due.is("count(9) behind undo()", x.count(9), 11);
   }
@@ -226,11 +226,11 @@ public final class TextsBoundsTest {
     for (int i = 0; i < 6; i++) {
       four.play();
     }
-    due.is("count(1)", four.count(1), 30);
+    due.is("count(1)", four.count(1), Due.tick(30));
     due.is("count(8)", four.count(8), 4);
     for (int left = 3; left >= 0; left--) {
       due.is("undo()", four.undo(), left);
-      due.is("count(1)", four.count(1), 10 + 5 * left);
+      due.is("count(1)", four.count(1), Due.tick(10 + 5 * left));
     }
   }
 

@@ -343,7 +343,7 @@ public final class WouldBeBoundsTest {
   private static void countRange() {
     Due due = new Due(COUNT, "what: 0 to 9; 20 and 21; INVALID_ARGUMENT if what is out of range");
     FencedStandbys x = Made.busy();
-    int[] want = {7, 5, 1, 4, 1, 0, 2, 7, 4, 6};
+    int[] want = {7, Due.tick(5), 1, 4, 1, 0, 2, 7, 4, 6};
     for (int what = 0; what <= 9; what++) {
       due.is("count(" + what + ")", x.count(what), want[what]);
     }
@@ -384,13 +384,13 @@ public final class WouldBeBoundsTest {
   private static void countTickAndTimeline() {
     Due due = new Due(COUNT, "1: the tick; 2: the timeline");
     FencedStandbys x = new FencedStandbys();
-    due.is("count(1) at first", x.count(1), 0);
+    due.is("count(1) at first", x.count(1), Due.tick(0));
     due.is("count(2) at first", x.count(2), 1);
     x.promote(0);
-    due.is("count(1)", x.count(1), 0);
+    due.is("count(1)", x.count(1), Due.tick(0));
     due.is("count(2)", x.count(2), 2);
     x.tick(99);
-    due.is("count(1)", x.count(1), 99);
+    due.is("count(1)", x.count(1), Due.tick(99));
     due.is("count(2)", x.count(2), 2);
     for (int i = 0; i < 300; i++) {
       x.promote(1);
@@ -591,11 +591,11 @@ public final class WouldBeBoundsTest {
     x.tick(1);
     x.tick(2);
     due.is("undo()", x.undo(), 1);
-    due.is("count(1)", x.count(1), 1);
+    due.is("count(1)", x.count(1), Due.tick(1));
     due.is("undo() again goes further back", x.undo(), 0);
-    due.is("count(1)", x.count(1), 0);
+    due.is("count(1)", x.count(1), Due.tick(0));
     x.tick(5);
     due.is("undo() of a change behind undos", x.undo(), 0);
-    due.is("count(1)", x.count(1), 0);
+    due.is("count(1)", x.count(1), Due.tick(0));
   }
 }

@@ -36,7 +36,7 @@ public final class WouldBeTest {
     due.is("waits(0, -1)", x.waits(0, -1), Due.INVALID);
     due.is("waits(2, 0)", x.waits(2, 0), Due.INVALID);
     due.is("waits(-1, 0)", x.waits(-1, 0), Due.INVALID);
-    due.is("count(1): no tick passes", x.count(1), 0);
+    due.is("count(1): no tick passes", x.count(1), Due.tick(0));
     due.is("standbyOf(0, 1): nothing is applied", x.standbyOf(0, 1), 0);
     x.tick(68);
     due.is("standbyOf(0, 1) just then", x.standbyOf(0, 1), 49);
@@ -121,7 +121,7 @@ public final class WouldBeTest {
     x.set(0, 6);
     x.set(1, 9);
     Due.typeAll(x, "o2;x");
-    int[] want = {6, 7, 1, 4, 2, 0, 2, 3, 4, 4};
+    int[] want = {6, Due.tick(7), 1, 4, 2, 0, 2, 3, 4, 4};
     for (int what = 0; what < want.length; what++) {
       due.is("count(" + what + ")", x.count(what), want[what]);
     }
@@ -131,7 +131,7 @@ public final class WouldBeTest {
       due.is("count(" + what + ")", x.count(what), Due.INVALID);
     }
     x.promote(0);
-    int[] then = {3, 7, 2, 4, 1, 1, 2, 3, 4, 4};
+    int[] then = {3, Due.tick(7), 2, 4, 1, 1, 2, 3, 4, 4};
     for (int what = 0; what < then.length; what++) {
       due.is("count(" + what + ") promoted", x.count(what), then[what]);
     }
